@@ -1,0 +1,46 @@
+/** Counts the answers of one test, prints those that are not the due ones, and ends with 1 if there was one. */
+final class Due {
+    private final String test;
+    private int right;
+    private int wrong;
+
+    Due(String test) {
+        this.test = test;
+    }
+
+    void is(String call, long got, long want) {
+        if (got == want) {
+            right++;
+        } else {
+            wrong++;
+            System.out.println(test + ": " + call + " answered " + got + ", due is " + want);
+        }
+    }
+
+    void end() {
+        System.out.println(test + ": " + right + " answers as due, " + wrong + " not");
+        if (wrong != 0) {
+            System.exit(1);
+        }
+    }
+
+    static void feed(NearlySaid x, String text) {
+        for (int i = 0; i < text.length(); i++) {
+            x.feed(text.charAt(i));
+        }
+    }
+
+    static int read(NearlySaid x, String text) {
+        feed(x, text);
+        return x.street();
+    }
+
+    /** A new object with this street. */
+    static NearlySaid with(String text) {
+        NearlySaid x = new NearlySaid();
+        if (read(x, text) < 1) {
+            throw new IllegalStateException("the test's own street is faulty: " + text);
+        }
+        return x;
+    }
+}
