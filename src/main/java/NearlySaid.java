@@ -556,17 +556,15 @@ public final class NearlySaid {
         // The sets come from the least on, so of several that are as few the least is kept.
         for (int set = 0; set < 1 << now.houses; set++) {
             int many = Integer.bitCount(set);
-            if ((set & now.hushed) == 0 && many < fewest && isClearIfHushed(set, place, n)) {
-                which = set;
-                fewest = many;
+            if ((set & now.hushed) == 0 && many < fewest) {
+                foreseeHushed(set, n);
+                if (foreseen.isClearAt(place)) {
+                    which = set;
+                    fewest = many;
+                }
             }
         }
         return which;
-    }
-
-    private boolean isClearIfHushed(int set, int place, int n) {
-        foreseeHushed(set, n);
-        return place == POND ? !foreseen.isOverPlank() : foreseen.gutter[place] == 0;
     }
 
     private static int howManyOrWhich(int which, int what) {
@@ -873,6 +871,10 @@ public final class NearlySaid {
             return pond > plank;
         }
 
+        boolean isClearAt(int place) {
+            return place == POND ? !isOverPlank() : gutter[place] == 0;
+        }
+
         int firstFullBars() {
             for (int h = 0; h < houses; h++) {
                 if (bars[h] > 0 && caught[h] == bars[h]) {
@@ -1070,7 +1072,7 @@ public final class NearlySaid {
         }
 
         private static boolean isFigure(int letter) {
-            return isWithin(letter, '0', '9');
+            return letter >= '0' && letter <= '9';
         }
     }
 }

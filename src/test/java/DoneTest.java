@@ -201,6 +201,8 @@ public final class DoneTest {
         x.minutes(5);
         due.is("letDown(0)", x.letDown(0), BAD);
         due.is("letDown(100)", x.letDown(100), BAD);
+        due.is("letDown(1)", x.letDown(1), 6);
+        x.undo();
         due.is("letDown(3)", x.letDown(3), 4);
         due.is("letDown(99)", x.letDown(99), 0);
         due.is("undo()", x.undo(), 6);

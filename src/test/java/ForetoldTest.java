@@ -169,6 +169,7 @@ public final class ForetoldTest {
         NearlySaid x = Due.with(THREE);
         due.is("catches(4, 0), all alike", x.catches(4, 0), 0);
         due.is("catches(4, 1), all alike", x.catches(4, 1), 5);
+        due.is("catches(1, 1)", x.catches(1, 1), 0);
         x = Due.with("g1,0;s0,1,0;k0,1,0;k0,1,1;");
         due.is("catches(8, 0)", x.catches(8, 0), 1);
         due.is("catches(8, 1)", x.catches(8, 1), 0);
@@ -197,6 +198,7 @@ public final class ForetoldTest {
         due.is("from(2, 1)", x.from(2, 1), 1000);
         x.hush(1, 1);
         due.is("from(1, 4), it is hushed", x.from(1, 4), 1000);
+        due.is("from(0, 9) of the only one", Due.with("g2,0;s0,1,0;").from(0, 9), 1008);
         due.is("from(0, 0)", x.from(0, 0), BAD);
         due.is("from(0, 41)", x.from(0, 41), BAD);
         due.is("from(3, 1)", x.from(3, 1), BAD);
@@ -221,6 +223,11 @@ public final class ForetoldTest {
         due.is("loud(0, 3)", x.loud(0, 3), NONE);
         x = Due.with("g9,9;k0,1,0;");
         due.is("loud(0, 3), just over", x.loud(0, 3), 5);
+        x = Due.with("g9,1;k0,9,0;");
+        due.is("loud(0, 1), too soon", x.loud(0, 1), NONE);
+        due.is("loud(0, 2), the greatest TALK nearly", x.loud(0, 2), 18);
+        x = Due.with("g9,3;k0,5,0;");
+        due.is("loud(0, 2), the greatest TALK", x.loud(0, 2), 20);
     }
 
     private static void dry() {

@@ -176,6 +176,9 @@ public final class RowsTest {
         x.set(0, 0, 1);
         due.is("status() of set", x.status(), 0);
         x.drop(2);
+        x.copy(0, 0, 0, 1, 1);
+        due.is("status() of copy", x.status(), 0);
+        x.drop(2);
         x.drop(1);
         due.is("status() of drop", x.status(), 0);
     }
