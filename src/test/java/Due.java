@@ -1,6 +1,7 @@
 /** Counts the answers of one test, prints those that are not the due ones, and ends with 1 if there was one. */
 final class Due {
     private final String test;
+    private String sentence = "";
     private int right;
     private int wrong;
 
@@ -8,12 +9,35 @@ final class Due {
         this.test = test;
     }
 
+    /** The sentence of the document that the answers from here on are about. */
+    void about(String words) {
+        sentence = " (" + words + ")";
+    }
+
     void is(String call, long got, long want) {
         if (got == want) {
             right++;
         } else {
             wrong++;
-            System.out.println(test + ": " + call + " answered " + got + ", due is " + want);
+            System.out.println(test + sentence + ": " + call + " answered " + got + ", due is " + want);
+        }
+    }
+
+    void isNot(String call, long got, long unwanted) {
+        if (got != unwanted) {
+            right++;
+        } else {
+            wrong++;
+            System.out.println(test + sentence + ": " + call + " answered " + got + ", which is not due");
+        }
+    }
+
+    void same(String call, String got, String want) {
+        if (got.equals(want)) {
+            right++;
+        } else {
+            wrong++;
+            System.out.println(test + sentence + ": " + call + " left\n" + got + "due is\n" + want);
         }
     }
 
