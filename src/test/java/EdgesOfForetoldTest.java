@@ -25,6 +25,7 @@ public final class EdgesOfForetoldTest {
         spareNone();
         catchOfSeveralTheFirst();
         catchPutNow();
+        catchOfSeven();
         fromNothing();
         fromMost();
         loudFromEndToEnd();
@@ -314,6 +315,13 @@ public final class EdgesOfForetoldTest {
         due.is("which", x.catches(20, 0), 1);
         due.is("how much", x.catches(20, 1), 20 - 1 - 8 - 9);
         due.is("BARS are as they were", x.house(1, 4), 9);
+    }
+
+    private static void catchOfSeven() {
+        due.about("the house where bars of 9 let least be in the pond, of 7");
+        NearlySaid x = Due.with("g1,0;k0,1,0;k0,1,0;k0,1,0;k0,1,0;k0,1,0;s0,1,0;k0,1,0;");
+        due.is("the last of seven: which", x.catches(40, 0), 6);
+        due.is("the last of seven: how much", x.catches(40, 1), 40 - 2 - 9);
     }
 
     private static void fromNothing() {

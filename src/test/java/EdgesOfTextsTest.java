@@ -8,6 +8,8 @@ public final class EdgesOfTextsTest {
     public static void main(String[] args) {
         tapeHoldsAllBytes();
         tapeIsEmptyThen();
+        nothingIsLeftOnTheTape();
+        figuresUpToTheEnd();
         numbersAsTold();
         runsOfThreeFigures();
         bytesThatAreNoToken();
@@ -19,6 +21,7 @@ public final class EdgesOfTextsTest {
         theLeastOfOneToken();
         noFaultBeforeOne();
         inPlaceOfTheOneBefore();
+        emptyBehindWhatWasForetold();
         due.end();
     }
 
@@ -66,6 +69,25 @@ public final class EdgesOfTextsTest {
         due.is("a faulty one", Due.read(x, "g1,0;k0,1,0"), FAULTY - 11);
         due.is("bytes behind it", x.count(7), 0);
         due.is("what was faulty is gone", Due.read(x, ";"), FAULTY);
+    }
+
+    private static void nothingIsLeftOnTheTape() {
+        due.about("The tape, empty then: what was there is no more behind the end");
+        NearlySaid x = Due.with("g1,0;k0,1,09;k0,1,0;");
+        due.is("figures were there", Due.read(x, "g1,0;k0,1,0"), FAULTY - 11);
+        due.is("its fault", x.fault(), 1);
+        Due.read(x, "g11,0;");
+        due.is("a figure was there", Due.read(x, "g1"), FAULTY - 2);
+        Due.read(x, "g1,0;k0,1,0;");
+        due.is("a whole house was there", Due.read(x, "g1,0;"), FAULTY - 5);
+        due.is("a sign was there", Due.read(x, "g1,0"), FAULTY - 4);
+    }
+
+    private static void figuresUpToTheEnd() {
+        due.about("THE TAPE has at most 120 bytes: figures up to the last");
+        fault("g" + "1".repeat(119), 1, 1);
+        fault("1".repeat(120), 0, 1);
+        fault("g1,0;k0,1," + "0".repeat(110), 10, 1);
     }
 
     private static void number(String ahead, int number, String behind, int least, int greatest) {
@@ -270,5 +292,28 @@ public final class EdgesOfTextsTest {
         due.is("the pond", x.stand(0), 0);
         due.is("an image stays", x.restore(1), 1);
         due.is("its MINUTE", x.count(2), 20);
+    }
+
+    private static void emptyBehindWhatWasForetold() {
+        due.about("MINUTE 0, all gutters, bars, the pond are empty, nobody is hushed, whatever was foretold");
+        NearlySaid x = Due.with(SEVEN);
+        NearlySaid twin = Due.with(SEVEN);
+        x.minutes(24);
+        x.hushed(40, 5, 0);
+        Due.read(x, SEVEN);
+        due.same("behind hushed()", Seen.of(x), Seen.of(twin));
+        x = Due.with(SEVEN);
+        twin = Due.with(SEVEN);
+        x.pond(99, 0);
+        Due.read(x, SEVEN);
+        due.same("behind pond()", Seen.of(x), Seen.of(twin));
+        x = Due.with(SEVEN);
+        twin = new NearlySaid();
+        twin.street();
+        Due.read(twin, SEVEN);
+        x.drawn(60, 1, 0);
+        due.is("a faulty text", Due.read(x, "g1,0;k20,1,0;k"), FAULTY - 14);
+        Due.read(x, SEVEN);
+        due.same("behind drawn() and a faulty text", Seen.of(x), Seen.of(twin));
     }
 }
