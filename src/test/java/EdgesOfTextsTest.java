@@ -1,3 +1,6 @@
+import java.util.ArrayList;
+import java.util.List;
+
 /** Texts at their edges: each sentence of TEXTS, FAULTS and of promises 1, 6 to 8 that names one, with its own test. */
 public final class EdgesOfTextsTest {
     private static final int FAULTY = -1000100;
@@ -12,6 +15,7 @@ public final class EdgesOfTextsTest {
         figuresUpToTheEnd();
         numbersAsTold();
         runsOfThreeFigures();
+        eachTokenAtEachPlace();
         bytesThatAreNoToken();
         lettersEachByItself();
         theEnd();
@@ -133,6 +137,98 @@ public final class EdgesOfTextsTest {
             fault("g1,0;k0,1," + run, 10, 1);
             fault(run, 0, 1);
             fault("g1" + run, 1, 1);
+            fault("g1,0;" + run, 5, 1);
+            fault("g1,0;k0,1,0;" + run, 12, 1);
+            fault("g1,0;k0,1,0;" + run + "k0,1,0;", 12, 1);
+            fault(SEVEN + run, SEVEN.length(), 1);
+        }
+    }
+
+    /** What may stand at a place: letters or a sign, or (least and greatest) a number. */
+    private static final class Place {
+        final String signs;
+        final int least;
+        final int greatest;
+        final String example;
+
+        Place(String signs, int least, int greatest, String example) {
+            this.signs = signs;
+            this.least = least;
+            this.greatest = greatest;
+            this.example = example;
+        }
+
+        static Place sign(String signs) {
+            return new Place(signs, 0, -1, signs.substring(0, 1));
+        }
+
+        static Place number(int least, int greatest) {
+            return new Place("", least, greatest, "" + least);
+        }
+
+        boolean isNumber() {
+            return signs.isEmpty();
+        }
+
+        int faultOf(String token, boolean isFull) {
+            boolean isFigures = Character.isDigit(token.charAt(0));
+            if (!isNumber()) {
+                boolean fits = !isFigures && signs.contains(token);
+                return !fits ? 1 : isFull && signs.equals(SORTS) ? 3 : 0;
+            }
+            if (!isFigures || token.length() > 2) {
+                return 1;
+            }
+            return Integer.parseInt(token) < least || Integer.parseInt(token) > greatest ? 2 : 0;
+        }
+    }
+
+    private static final Place[] LAW = {Place.sign("g"), Place.number(1, 9), Place.sign(","), Place.number(0, 99),
+        Place.sign(";")};
+    private static final Place[] HOUSE = {Place.sign(SORTS), Place.number(0, 20), Place.sign(","), Place.number(1, 9),
+        Place.sign(","), Place.number(0, 9), Place.sign(";")};
+
+    private static Place placeOf(int token) {
+        return token < LAW.length ? LAW[token] : HOUSE[(token - LAW.length) % HOUSE.length];
+    }
+
+    private static List<String> tokensOfAllSorts() {
+        List<String> all = new ArrayList<>();
+        for (char letter = 'a'; letter <= 'z'; letter++) {
+            all.add("" + letter);
+        }
+        for (int number = 0; number < 100; number++) {
+            all.add("" + number);
+        }
+        all.addAll(List.of(",", ";", "00", "05", "09", "000", "005", "100", "123", "4567", "K", " ", "\u00e9"));
+        return all;
+    }
+
+    private static void eachTokenAtEachPlace() {
+        StringBuilder ahead = new StringBuilder();
+        int last = LAW.length + 7 * HOUSE.length;
+        for (int token = 0; token <= last; token++) {
+            due.about("FAULTS, of each TOKEN as the text's number " + token);
+            boolean isBehindNumber = token > 0 && placeOf(token - 1).isNumber();
+            for (String one : tokensOfAllSorts()) {
+                // Figures behind figures are one number with them, not one more.
+                if (!isBehindNumber || !Character.isDigit(one.charAt(0))) {
+                    put(ahead.toString(), one, placeOf(token).faultOf(one, token == last), token);
+                }
+            }
+            ahead.append(placeOf(token).example);
+        }
+    }
+
+    private static void put(String ahead, String one, int number, int token) {
+        int houses = (token + 1 - LAW.length) / HOUSE.length;
+        boolean ends = token >= LAW.length && (token + 1 - LAW.length) % HOUSE.length == 0;
+        if (number != 0) {
+            fault(ahead + one, ahead.length(), number);
+        } else if (ends) {
+            good(ahead + one, houses);
+        } else {
+            fault(ahead + one, ahead.length() + one.length(), 1);
         }
     }
 

@@ -59,12 +59,17 @@ public final class ModelTest {
         return methods.stream().filter(m -> m.getName().equals(name)).findFirst().orElseThrow();
     }
 
-    private void call(Method m, int... a) throws Exception {
+    /** Beyond the 512th call what is answered is free, so none is made. */
+    private long call(Method m, int... a) throws Exception {
+        if (calls == CALLS) {
+            return 0;
+        }
         calls++;
         Object[] boxed = Arrays.stream(a).boxed().toArray();
         long got = ((Number) m.invoke(x, boxed)).longValue();
         String told = "run " + run + ", call " + calls + ": " + m.getName() + Arrays.toString(a);
         due.is(told, got, model.call(m.getName(), a));
+        return got;
     }
 
     private void feedStreet() throws Exception {
@@ -105,7 +110,7 @@ public final class ModelTest {
         int n = 1 + random.nextInt(12);
         call(method("row"), row, 1 + random.nextInt(2), n);
         for (int m = 1; m <= n; m++) {
-            call(method("set"), row, m - 1, x.ahead(house, m));
+            call(method("set"), row, m - 1, (int) call(method("ahead"), house, m));
         }
         for (int other = 0; other < 3; other++) {
             int asked = random.nextInt(house + 1);
